@@ -1150,17 +1150,17 @@ public final class BookOfAll {
             return made;
         }
 
-        int byteAt(int place) {
+        private int byteAt(int place) {
             return place >= 0 && place < size && place < TEXT_LIMIT ? bytes[place] & 255 : 0;
         }
 
-        void refuse() {
+        private void refuse() {
             if (fault == NONE) {
                 fault = start;
             }
         }
 
-        void advance() {
+        private void advance() {
             if (fault != NONE) {
                 return;
             }
@@ -1185,7 +1185,7 @@ public final class BookOfAll {
             }
         }
 
-        void readNumber() {
+        private void readNumber() {
             number = 0;
             while (next < size && Entry.isDigit(byteAt(next))) {
                 if (number <= MOST_NUMBER) {
@@ -1195,16 +1195,16 @@ public final class BookOfAll {
             }
         }
 
-        static boolean isLetter(int mark) {
+        private static boolean isLetter(int mark) {
             return mark >= 'a' && mark <= 'z';
         }
 
-        static boolean isSign(int mark) {
+        private static boolean isSign(int mark) {
             return mark > 0 && "+-*/()[],<>=;".indexOf((char) mark) >= 0;
         }
 
         /** Which of the words, parted by blanks, the TOKEN is. */
-        int among(String known) {
+        private int among(String known) {
             if (kind != WORD) {
                 return NONE;
             }
@@ -1222,7 +1222,7 @@ public final class BookOfAll {
             return NONE;
         }
 
-        boolean isToken(String known, int begin, int stop) {
+        private boolean isToken(String known, int begin, int stop) {
             if (stop - begin != next - start) {
                 return false;
             }
@@ -1234,7 +1234,7 @@ public final class BookOfAll {
             return true;
         }
 
-        void expect(int sign) {
+        private void expect(int sign) {
             if (kind == sign) {
                 advance();
             } else {
@@ -1242,14 +1242,14 @@ public final class BookOfAll {
             }
         }
 
-        void emit(int op) {
+        private void emit(int op) {
             if (fault == NONE && codeSize >= 0 && codeSize < code.length) {
                 code[codeSize] = op;
                 codeSize++;
             }
         }
 
-        void readClause() {
+        private void readClause() {
             int clause = among(CLAUSES);
             if (clause == NONE) {
                 refuse();
@@ -1264,7 +1264,7 @@ public final class BookOfAll {
             expect(';');
         }
 
-        void readSkip() {
+        private void readSkip() {
             int letters = next - start;
             if (kind != WORD || letters > LONGEST_WORD || wordCount >= Sheet.MOST_WORDS) {
                 refuse();
@@ -1279,7 +1279,7 @@ public final class BookOfAll {
             advance();
         }
 
-        void readOnly(int sort) {
+        private void readOnly(int sort) {
             if (!open(sort)) {
                 return;
             }
@@ -1295,7 +1295,7 @@ public final class BookOfAll {
             close(sort);
         }
 
-        void readForLength(int firstSort) {
+        private void readForLength(int firstSort) {
             advance();
             int k = among(LENGTHS);
             if (k == NONE) {
@@ -1310,7 +1310,7 @@ public final class BookOfAll {
         }
 
         /** The TOKEN that tells the sort is the one at fault, if that sort was there. */
-        boolean open(int sort) {
+        private boolean open(int sort) {
             if (sort < 0 || sort >= Sheet.SORTS || from[sort] != NONE) {
                 refuse();
                 return false;
@@ -1320,13 +1320,13 @@ public final class BookOfAll {
             return true;
         }
 
-        void close(int sort) {
+        private void close(int sort) {
             if (sort >= 0 && sort < Sheet.SORTS) {
                 to[sort] = codeSize;
             }
         }
 
-        void readChoice(String known) {
+        private void readChoice(String known) {
             int choice = among(known);
             if (choice == NONE) {
                 refuse();
@@ -1336,7 +1336,7 @@ public final class BookOfAll {
             advance();
         }
 
-        void readEither(int depth) {
+        private void readEither(int depth) {
             readBoth(depth);
             for (int i = 0; i < size && fault == NONE && among("or") == 0; i++) {
                 advance();
@@ -1345,7 +1345,7 @@ public final class BookOfAll {
             }
         }
 
-        void readBoth(int depth) {
+        private void readBoth(int depth) {
             readBasic(depth);
             for (int i = 0; i < size && fault == NONE && among("and") == 0; i++) {
                 advance();
@@ -1354,7 +1354,7 @@ public final class BookOfAll {
             }
         }
 
-        void readBasic(int depth) {
+        private void readBasic(int depth) {
             boolean not = among("not") == 0;
             if (!not && kind != '[') {
                 readComparison(depth);
@@ -1374,7 +1374,7 @@ public final class BookOfAll {
             }
         }
 
-        void readComparison(int depth) {
+        private void readComparison(int depth) {
             readSum(depth);
             int sign = kind;
             if (sign != '<' && sign != '>' && sign != '=') {
@@ -1386,7 +1386,7 @@ public final class BookOfAll {
             emit(sign == '<' ? Rules.LESS : sign == '>' ? Rules.MORE : Rules.LIKE);
         }
 
-        void readSum(int depth) {
+        private void readSum(int depth) {
             readProduct(depth);
             for (int i = 0; i < size && fault == NONE && (kind == '+' || kind == '-'); i++) {
                 int op = kind == '+' ? Rules.ADD : Rules.SUBTRACT;
@@ -1396,7 +1396,7 @@ public final class BookOfAll {
             }
         }
 
-        void readProduct(int depth) {
+        private void readProduct(int depth) {
             readFactor(depth);
             for (int i = 0; i < size && fault == NONE && (kind == '*' || kind == '/'); i++) {
                 int op = kind == '*' ? Rules.MULTIPLY : Rules.DIVIDE;
@@ -1406,7 +1406,7 @@ public final class BookOfAll {
             }
         }
 
-        void readFactor(int depth) {
+        private void readFactor(int depth) {
             if (fault != NONE) {
                 return;
             }
@@ -1538,7 +1538,7 @@ public final class BookOfAll {
         }
 
         /** The SHEET of a put that counts for a VOLUME (NONE: for all alone) on a DAY, else null. */
-        Sheet sheetOfPut(int i, int volume, int day) {
+        private Sheet sheetOfPut(int i, int volume, int day) {
             if (i < 0 || i >= puts || i >= PUT_LIMIT || putDay[i] > day) {
                 return null;
             }
@@ -1588,7 +1588,7 @@ public final class BookOfAll {
             return s == null ? WITHOUT[sort] : run(s, sort);
         }
 
-        int run(Sheet s, int sort) {
+        private int run(Sheet s, int sort) {
             if (!s.has(sort) || sort >= s.to.length) {
                 return 0;
             }
@@ -1599,7 +1599,7 @@ public final class BookOfAll {
             return pop();
         }
 
-        void step(int op) {
+        private void step(int op) {
             int name = FIRST_NAME - op;
             if (op >= 0) {
                 push(op);
@@ -1614,14 +1614,14 @@ public final class BookOfAll {
             }
         }
 
-        void push(int value) {
+        private void push(int value) {
             if (top >= 0 && top < STACK) {
                 stack[top] = value;
                 top++;
             }
         }
 
-        int pop() {
+        private int pop() {
             if (top <= 0 || top > STACK) {
                 return 0;
             }
@@ -1629,7 +1629,7 @@ public final class BookOfAll {
             return stack[top];
         }
 
-        static int combine(int op, int left, int right) {
+        private static int combine(int op, int left, int right) {
             switch (op) {
                 case ADD:
                     return within((long) left + right);
@@ -1654,7 +1654,7 @@ public final class BookOfAll {
             }
         }
 
-        static int within(long value) {
+        private static int within(long value) {
             return (int) Math.max(-FARTHEST, Math.min(FARTHEST, value));
         }
     }
@@ -1718,11 +1718,11 @@ public final class BookOfAll {
             return 0;
         }
 
-        int passBlank(Entry e, int place) {
+        private int passBlank(Entry e, int place) {
             return !blanksCount && e.byteAt(place) == ' ' ? place + 1 : place;
         }
 
-        int rank(int mark) {
+        private int rank(int mark) {
             if (mark == 0) {
                 return -1;
             }
@@ -1770,7 +1770,7 @@ public final class BookOfAll {
             heading = new byte[Math.max(0, size)];
         }
 
-        static int byteOf(int a, int b, int c, int place) {
+        private static int byteOf(int a, int b, int c, int place) {
             int four = place < 4 ? a : place < 8 ? b : c;
             return four >>> (24 - 8 * (place & 3)) & 255;
         }
@@ -1779,7 +1779,7 @@ public final class BookOfAll {
             return mark >= '0' && mark <= '9';
         }
 
-        static boolean isMark(int mark) {
+        private static boolean isMark(int mark) {
             return mark >= 'a' && mark <= 'z' || isDigit(mark);
         }
 
@@ -1923,7 +1923,7 @@ public final class BookOfAll {
             return true;
         }
 
-        int tellOn(int fact, int on) {
+        private int tellOn(int fact, int on) {
             int tell = fact >= 0 && fact < FACT_COUNT ? latest[fact] : NONE;
             for (int i = 0; i < TELL_LIMIT && tell >= 0 && tell < TELL_LIMIT; i++) {
                 if (day[tell] <= on) {
@@ -2024,7 +2024,7 @@ public final class BookOfAll {
             return down || up;
         }
 
-        void shift(int[] toward, int lines) {
+        private void shift(int[] toward, int lines) {
             int left = lines;
             for (int i = 0; i < size && i < ENTRY_LIMIT && i < toward.length; i++) {
                 int gap = toward[i] - fitted[i];
@@ -2034,7 +2034,7 @@ public final class BookOfAll {
             }
         }
 
-        int sumOf(int[] numbers) {
+        private int sumOf(int[] numbers) {
             int sum = 0;
             for (int i = 0; i < size && i < numbers.length; i++) {
                 sum += numbers[i];
@@ -2137,7 +2137,7 @@ public final class BookOfAll {
             return many;
         }
 
-        int firstHandFor(int i, int rest) {
+        private int firstHandFor(int i, int rest) {
             if (i < 0 || i >= MOST_ARTICLES) {
                 return NONE;
             }
@@ -2155,7 +2155,7 @@ public final class BookOfAll {
         }
 
         /** The worth of the best way to give the ARTICLES from one on, with the room that is left. */
-        int bestFrom(int first) {
+        private int bestFrom(int first) {
             int count = Math.max(0, Math.min(MOST_ARTICLES, articleCount) - first);
             int ways = Math.min(WAYS, 1 << count);
             sumLacks(first, ways);
@@ -2173,7 +2173,7 @@ public final class BookOfAll {
             return best;
         }
 
-        void sumLacks(int first, int ways) {
+        private void sumLacks(int first, int ways) {
             sums[0] = 0;
             for (int set = 1; set < ways && set < WAYS; set++) {
                 int i = first + Integer.numberOfTrailingZeros(set);
@@ -2182,7 +2182,7 @@ public final class BookOfAll {
         }
 
         // From the greatest set down: a smaller one still tells what was reached without this HAND.
-        void reachWith(int taken, int lines, int ways) {
+        private void reachWith(int taken, int lines, int ways) {
             for (int set = Math.min(ways, WAYS) - 1; set > 0; set--) {
                 for (int part = set; part > 0 && !reached[set]; part = (part - 1) & set) {
                     boolean fits = (part & ~taken) == 0 && sums[part] <= lines;
@@ -2232,7 +2232,7 @@ public final class BookOfAll {
             }
         }
 
-        int weightOfAll() {
+        private int weightOfAll() {
             return size >= 0 && size <= ROW_LIMIT ? weight[size] : 0;
         }
 
