@@ -188,6 +188,9 @@ public final class ModelTest {
             if (often(3)) {
                 s.insert(r(s.length() + 1), new String[] {" ", "  ", "A", "-", "\0", "\u00e9", "{", "`", "/", ":"}[r(10)]);
             }
+            if (often(2)) {
+                s.insert(0, new String[] {"aeaeaeae ", "zaeaeaeae ", "abcdefgh ", "zz "}[r(4)]);
+            }
             if (often(3)) {
                 while (s.length() < 12) {
                     s.append(letters.charAt(r(letters.length())));
@@ -251,7 +254,7 @@ public final class ModelTest {
             String k = new String[] {"short", "plain", "long"}[r(3)];
             switch (r(12)) {
                 case 0:
-                    return "skip " + new String[] {"the", "a", "an", "de", "abcdefgh", "e"}[r(6)] + ";";
+                    return "skip " + new String[] {"the", "a", "an", "de", "abcdefgh", "e", "zz", "aeaeaeae"}[r(8)] + ";";
                 case 1:
                     return "numbers " + (often(50) ? "first" : "last") + ";";
                 case 2:
@@ -393,7 +396,7 @@ public final class ModelTest {
         }
 
         void play() throws Exception {
-            int hands = 1 + r(5);
+            int hands = 1 + r(9);
             for (int i = 0; i < hands; i++) {
                 call("hand", often(70) ? 255 : 1 + r(255), 1 + r(20), -r(40001));
             }
@@ -605,7 +608,7 @@ public final class ModelTest {
                 }
             }
             int hands = 0;
-            for (int i = r(5); i >= 0; i--) {
+            for (int i = r(8); i >= 0; i--) {
                 int n = handNo();
                 if (n >= 0 && n < plain.hands.size() && (plain.hands.get(n).lives || often(5))) {
                     hands |= 1 << n;

@@ -29,6 +29,7 @@ public final class PromiseTest {
         pointElsewhere();
         strikeAndLater();
         keysAndOrder();
+        longWords();
         orderOfOneVolume();
         reasons();
         handsAndEnemies();
@@ -189,6 +190,7 @@ public final class PromiseTest {
         fault("skip 7;", 5);
         fault("skip abcdefgh;", NONE);
         fault("skip abcdefghi;", 5);
+        fault("skip zoo;skip azaz;", NONE);
         fault("skip a b;", 7);
         fault("skip a1;", 6);
         fault("skip", 4);
@@ -250,6 +252,8 @@ public final class PromiseTest {
         fault("owe ((((((((7))))))));", NONE);
         fault("owe (((((((((7)))))))));", 12);
         fault("owe (1)+((((((((7))))))));", NONE);
+        fault("least short ((((((((7))))))));", NONE);
+        fault("most long (((((((((7)))))))));", 18);
         fault("owe 1**2;", 6);
     }
 
@@ -537,6 +541,21 @@ public final class PromiseTest {
         due(17, "no volume", x.at(-1, 0), NONE);
         due(17, "no place", x.at(0, -1), NONE);
         due(17, "no place", x.at(0, 6), NONE);
+    }
+
+    private static void longWords() {
+        BookOfAll x = new BookOfAll();
+        String[] all = {"zzzzzzzz a", "azzzzzzzz b", "zzzzzzzzz c", "zzzzzzzz", "zzzzzzz d", "zzzz zzzz e"};
+        for (String s : all) {
+            article(x, s, 1);
+        }
+        forAll(x, "skip zzzzzzzz;");
+        int[] volumes = {0, 0, 5, 5, 5, 5};
+        for (int i = 0; i < all.length; i++) {
+            due(16, all[i], x.volume(i), volumes[i]);
+        }
+        order(17, x, 0, 0, 1);
+        order(17, x, 5, 5, 4, 3, 2);
     }
 
     private static void orderOfOneVolume() {
@@ -946,6 +965,7 @@ public final class PromiseTest {
         due(30, "is", x.erratum(0, 1000, 2), NONE);
         due(30, "should", x.erratum(0, 2, -1), NONE);
         due(30, "should", x.erratum(0, 2, 1000), NONE);
+        due(30, "is", x.erratum(0, 1000, 1000), NONE);
         due(31, "meets", x.misses(0), 0);
         due(30, "again", x.erratum(0, 1, 3), 1);
         due(31, "misses", x.misses(1), 1);
@@ -962,7 +982,12 @@ public final class PromiseTest {
         due(27, "no more", x.stale(0, 4), false);
         due(31, "none such", x.misses(3), NONE);
         due(31, "none such", x.misses(-1), NONE);
-        for (int i = 3; i < 60; i++) {
+        due(30, "the ends", x.erratum(1, 1, 999), 3);
+        due(30, "the ends", x.erratum(1, 999, 0), 4);
+        due(32, "applied in order", x.told(1, 1), 0);
+        due(30, "the ends", x.erratum(1, 0, 1), 5);
+        due(31, "meets", x.misses(5), 0);
+        for (int i = 6; i < 60; i++) {
             due(30, "more", x.erratum(1, 999, 0), i);
         }
         due(30, "too many", x.erratum(1, 1, 0), NONE);
@@ -1321,6 +1346,29 @@ public final class PromiseTest {
         due(41, "400 at most", x.length(1, 2), 400);
         forVolume(x, "most plain asked-1;", 0);
         due(41, "by its names and for its volume", x.length(1, 1), 9);
+        forAll(x, "most plain 1+skill+age+late;");
+        due(41, "without a HAND", x.length(1, 1), 1);
+        x.give(1, x.hand(255, 5, -365 * 2));
+        due(41, "with a HAND", x.length(1, 1), 1 + 5 + 2 + 1);
+        for (int k = 0; k < 3; k++) {
+            BookOfAll y = new BookOfAll();
+            article(y, "a", 10000 * k + 2);
+            plate(y, "b", 0, 1);
+            due(40, "least without a rule", y.lengths(0, 11), 1);
+            due(41, "least without a rule", y.length(0, 11), 1);
+            article(y, "f", 10000 * k + 200);
+            due(40, "most without a rule", y.lengths(1, 400), 200);
+            due(41, "most without a rule", y.length(2, 400), 400);
+            pointer(y, "g", 0);
+            due(40, "399 and a pointer", y.lengths(1, 400), 199);
+            article(y, "k", 10000 * k + 200);
+            article(y, "l", 10000 * k + 200);
+            article(y, "m", 10000 * k + 200);
+            due(40, "of like ones the fewest lines", y.lengths(2, 400), 200);
+            due(41, "down to least", y.length(4, 400), 1);
+            due(41, "one line more", y.length(5, 400), 199);
+            due(41, "as asked", y.length(6, 400), 200);
+        }
     }
 
     private static void givingArticles() {
@@ -1406,6 +1454,19 @@ public final class PromiseTest {
         due(43, "field 2", x.given(127, 7, 4, 2), 2);
         due(43, "field 2", x.given(127, 7, 4, 5), 2);
         due(43, "no more", x.given(127, 7, 4, 6), NONE);
+        BookOfAll y = new BookOfAll();
+        for (int h = 0; h < 7; h++) {
+            y.hand(255, 1, 0);
+        }
+        for (int i = 0; i < 7; i++) {
+            article(y, "a", 4);
+        }
+        due(42, "six hands for one each", y.giving(127, 126, 4), 6);
+        for (int i = 0; i < 6; i++) {
+            due(43, "each to one", y.given(127, 126, 4, i), 1 + i);
+        }
+        due(43, "the last to none", y.given(127, 126, 4, 6), NONE);
+        due(42, "one hand alone", y.giving(127, 2, 4), 1);
         forAll(x, "write late<1 and field<2;");
         due(42, "by write, as it is NOW", x.giving(6, 8, 9), 1);
         x.later(0);
