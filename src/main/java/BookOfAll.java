@@ -25,6 +25,7 @@ public final class BookOfAll {
     private static final int YEAR = 365;
 
     private int now;
+    private int setBits;
     private final Reader reader;
     private final Rules rules;
     private final Order order;
@@ -129,7 +130,7 @@ public final class BookOfAll {
     }
 
     public boolean bound(int volume, int letter) {
-        if (volume < 0 || volume >= VOLUME_COUNT - 1 || letter < 0 || letter >= 26 || setBits() != 0) {
+        if (volume < 0 || volume >= VOLUME_COUNT - 1 || letter < 0 || letter >= 26 || setBits != 0) {
             return false;
         }
         Volume told = volumes[volume];
@@ -155,22 +156,12 @@ public final class BookOfAll {
     }
 
     private boolean isSet(int volume) {
-        return setVolumeAt(volume) != null;
+        return volume >= 0 && (setBits >> volume & 1) != 0;
     }
 
     private Volume setVolumeAt(int volume) {
         Volume v = volumeAt(volume);
         return v != null && v.setDay != NONE ? v : null;
-    }
-
-    private int setBits() {
-        int bits = 0;
-        for (int v = 0; v < VOLUME_COUNT; v++) {
-            if (isSet(v)) {
-                bits |= 1 << v;
-            }
-        }
-        return bits;
     }
 
     // ---- entries
@@ -472,8 +463,8 @@ public final class BookOfAll {
     private int pointersTo(int entry) {
         int many = 0;
         for (int i = 0; i < entryCount; i++) {
-            Entry e = entryOfKind(i, Entry.POINTER);
-            if (e != null && e.to == entry && !isStruck(e)) {
+            Entry e = entryAt(i);
+            if (e != null && e.kind == Entry.POINTER && e.to == entry && !isStruck(e)) {
                 many++;
             }
         }
@@ -484,15 +475,11 @@ public final class BookOfAll {
         int many = 0;
         for (int i = 0; i < entryCount; i++) {
             Entry e = entryAt(i);
-            if (e != null && isUnfinishedOf(e, hand)) {
+            if (e != null && e.isUnfinishedOf(hand)) {
                 many++;
             }
         }
         return many;
-    }
-
-    private boolean isUnfinishedOf(Entry e, int hand) {
-        return e.kind == Entry.ARTICLE && e.hand == hand && !e.isDone() && !isStruck(e);
     }
 
     public int line(int article, int leans, int term) {
@@ -551,7 +538,7 @@ public final class BookOfAll {
 
     private boolean hangs(Entry e) {
         Hand h = handAt(e.hand);
-        return h != null && !h.lives && isUnfinishedOf(e, e.hand);
+        return h != null && !h.lives && e.isUnfinishedOf(e.hand);
     }
 
     public int takers(int article) {
@@ -702,6 +689,7 @@ public final class BookOfAll {
         v.laid = new int[linesInRow()];
         v.order = Arrays.copyOf(row, Math.max(0, rowSize));
         v.setDay = now;
+        setBits |= 1 << volume;
         for (int k = 0; k < rowSize; k++) {
             Entry e = inRow(k);
             if (e == null) {
@@ -899,30 +887,21 @@ public final class BookOfAll {
     // ---- giving
 
     public int giving(int articles, int hands, int days) {
-        return prepareGiving(articles, hands, days) ? giver.choose() : NONE;
+        return canGive(articles, hands, days) && addHands(hands, days) && addArticles(articles) ? giver.choose() : NONE;
     }
 
     public int given(int articles, int hands, int days, int article) {
-        if (!prepareGiving(articles, hands, days)) {
-            return NONE;
-        }
-        giver.choose();
-        return giver.handOf(article);
+        return giving(articles, hands, days) == NONE ? NONE : giver.handOf(article);
     }
 
-    private boolean prepareGiving(int articles, int hands, int days) {
+    private boolean canGive(int articles, int hands, int days) {
         boolean bits = articles > 0 && articles < 1 << 30 && hands > 0 && hands < 1 << HAND_LIMIT;
-        if (!bits || days < 1 || days > 400) {
-            return false;
-        }
-        if (Integer.bitCount(articles) > Giver.MOST_ARTICLES || Integer.bitCount(hands) > Giver.MOST_HANDS) {
-            return false;
-        }
-        giver.begin();
-        return addHands(hands, days) && addArticles(articles);
+        boolean few = Integer.bitCount(articles) <= Giver.MOST_ARTICLES && Integer.bitCount(hands) <= Giver.MOST_HANDS;
+        return bits && few && days >= 1 && days <= 400;
     }
 
     private boolean addHands(int bits, int days) {
+        giver.begin();
         for (int n = 0; n < HAND_LIMIT; n++) {
             if ((bits >> n & 1) == 0) {
                 continue;
@@ -1058,7 +1037,7 @@ public final class BookOfAll {
             case 5:
                 return news.errata;
             case 6:
-                return setBits();
+                return setBits;
             case 7:
                 return reader.size;
             case 8:
@@ -1101,16 +1080,31 @@ public final class BookOfAll {
         static final int WORD = 1;
         static final int NUMBER = 2;
         static final int BAD = 3;
-        static final String CLAUSES = "skip numbers blanks write must owe least most pay";
-        static final String LENGTHS = "short plain long";
-        static final String NAMES = "asked lines facts points field skill age volume late";
+        // Words by their places here. Those from numbers to owe stand as their sorts of CLAUSE do.
+        static final String WORDS = "skip numbers blanks write must owe least most pay short plain long asked lines facts points field skill age volume late last first pass count or and not";
+        static final int SKIP = 0;
+        static final int NUMBERS = 1;
+        static final int OWE = 5;
+        static final int LEAST = 6;
+        static final int PAY = 8;
+        static final int SHORT = 9;
+        static final int LONG = 11;
+        static final int ASKED = 12;
+        static final int LATE = 20;
+        static final int LAST = 21;
+        static final int PASS = 23;
+        static final int OR = 25;
+        static final int AND = 26;
+        static final int NOT = 27;
 
         final byte[] bytes = new byte[TEXT_LIMIT];
         int size;
+        final int[] kinds = new int[TEXT_LIMIT + 1];
+        final int[] starts = new int[TEXT_LIMIT + 1];
+        final int[] stops = new int[TEXT_LIMIT + 1];
+        final int[] values = new int[TEXT_LIMIT + 1];
+        int tokens;
         int next;
-        int kind;
-        int start;
-        int number;
         int fault;
         final int[] code = new int[TEXT_LIMIT];
         int codeSize;
@@ -1129,13 +1123,13 @@ public final class BookOfAll {
         }
 
         int parse() {
+            scan();
             fault = NONE;
             next = 0;
             codeSize = 0;
             wordCount = 0;
             Arrays.fill(from, NONE);
-            advance();
-            for (int i = 0; i <= size && fault == NONE && kind != END; i++) {
+            for (int i = 0; i <= size && fault == NONE && kind() != END; i++) {
                 readClause();
             }
             return fault;
@@ -1154,47 +1148,6 @@ public final class BookOfAll {
             return place >= 0 && place < size && place < TEXT_LIMIT ? bytes[place] & 255 : 0;
         }
 
-        private void refuse() {
-            if (fault == NONE) {
-                fault = start;
-            }
-        }
-
-        private void advance() {
-            if (fault != NONE) {
-                return;
-            }
-            while (next < size && (byteAt(next) == ' ' || byteAt(next) == 10)) {
-                next++;
-            }
-            start = next;
-            int first = byteAt(start);
-            if (start >= size) {
-                kind = END;
-            } else if (isLetter(first)) {
-                kind = WORD;
-                while (next < size && isLetter(byteAt(next))) {
-                    next++;
-                }
-            } else if (Entry.isDigit(first)) {
-                kind = NUMBER;
-                readNumber();
-            } else {
-                kind = isSign(first) ? first : BAD;
-                next++;
-            }
-        }
-
-        private void readNumber() {
-            number = 0;
-            while (next < size && Entry.isDigit(byteAt(next))) {
-                if (number <= MOST_NUMBER) {
-                    number = number * 10 + byteAt(next) - '0';
-                }
-                next++;
-            }
-        }
-
         private static boolean isLetter(int mark) {
             return mark >= 'a' && mark <= 'z';
         }
@@ -1203,16 +1156,72 @@ public final class BookOfAll {
             return mark > 0 && "+-*/()[],<>=;".indexOf((char) mark) >= 0;
         }
 
-        /** Which of the words, parted by blanks, the TOKEN is. */
-        private int among(String known) {
-            if (kind != WORD) {
-                return NONE;
+        /** Parts the TEXT into TOKENS; END is the last, or a byte that begins none. */
+        private void scan() {
+            tokens = 0;
+            int place = 0;
+            int last = WORD;
+            for (int i = 0; i <= size && last != END && last != BAD; i++) {
+                while (place < size && (byteAt(place) == ' ' || byteAt(place) == 10)) {
+                    place++;
+                }
+                last = kindAt(place);
+                int stop = stopAt(place, last);
+                addToken(last, place, stop);
+                place = stop;
             }
+        }
+
+        private int kindAt(int place) {
+            int first = byteAt(place);
+            if (place >= size) {
+                return END;
+            }
+            if (isLetter(first)) {
+                return WORD;
+            }
+            if (Entry.isDigit(first)) {
+                return NUMBER;
+            }
+            return isSign(first) ? first : BAD;
+        }
+
+        private int stopAt(int place, int kind) {
+            int stop = place + 1;
+            while (stop < size && kind == WORD && isLetter(byteAt(stop))) {
+                stop++;
+            }
+            while (stop < size && kind == NUMBER && Entry.isDigit(byteAt(stop))) {
+                stop++;
+            }
+            return stop;
+        }
+
+        private void addToken(int kind, int start, int stop) {
+            if (tokens >= 0 && tokens < kinds.length) {
+                kinds[tokens] = kind;
+                starts[tokens] = start;
+                stops[tokens] = stop;
+                values[tokens] = kind == WORD ? wordAt(start, stop) : kind == NUMBER ? numberAt(start, stop) : NONE;
+                tokens++;
+            }
+        }
+
+        // A number too great stays too great, however many digits follow.
+        private int numberAt(int start, int stop) {
+            int number = 0;
+            for (int i = start; i < stop && number <= MOST_NUMBER; i++) {
+                number = number * 10 + byteAt(i) - '0';
+            }
+            return number;
+        }
+
+        private int wordAt(int start, int stop) {
             int index = 0;
             int begin = 0;
-            for (int i = 0; i <= known.length(); i++) {
-                if (i == known.length() || known.charAt(i) == ' ') {
-                    if (isToken(known, begin, i)) {
+            for (int i = 0; i <= WORDS.length(); i++) {
+                if (i == WORDS.length() || WORDS.charAt(i) == ' ') {
+                    if (i - begin == stop - start && isWordAt(begin, i, start)) {
                         return index;
                     }
                     index++;
@@ -1222,24 +1231,41 @@ public final class BookOfAll {
             return NONE;
         }
 
-        private boolean isToken(String known, int begin, int stop) {
-            if (stop - begin != next - start) {
-                return false;
-            }
-            for (int i = begin; i < stop && i < known.length(); i++) {
-                if (known.charAt(i) != byteAt(start + i - begin)) {
+        private boolean isWordAt(int begin, int end, int start) {
+            for (int i = begin; i >= 0 && i < end && i < WORDS.length(); i++) {
+                if (WORDS.charAt(i) != byteAt(start + i - begin)) {
                     return false;
                 }
             }
             return true;
         }
 
+        private int kind() {
+            return next >= 0 && next < tokens && next < kinds.length ? kinds[next] : END;
+        }
+
+        /** The place of the TOKEN in WORDS; NONE for another word, and for what is no word. */
+        private int word() {
+            return kind() == WORD ? values[next] : NONE;
+        }
+
+        private void refuse() {
+            if (fault == NONE) {
+                fault = next >= 0 && next < tokens && next < starts.length ? starts[next] : size;
+            }
+        }
+
+        private void advance() {
+            if (fault == NONE) {
+                next++;
+            }
+        }
+
         private void expect(int sign) {
-            if (kind == sign) {
-                advance();
-            } else {
+            if (kind() != sign) {
                 refuse();
             }
+            advance();
         }
 
         private void emit(int op) {
@@ -1250,28 +1276,32 @@ public final class BookOfAll {
         }
 
         private void readClause() {
-            int clause = among(CLAUSES);
-            if (clause == NONE) {
-                refuse();
-            } else if (clause == 0) {
+            if (word() == SKIP) {
                 advance();
                 readSkip();
-            } else if (clause <= 5) {
-                readOnly(clause - 1);
             } else {
-                readForLength(Sheet.LEAST + 3 * (clause - 6));
+                int sort = openSort();
+                if (sort == Sheet.NUMBERS) {
+                    readChoice(LAST);
+                } else if (sort == Sheet.BLANKS) {
+                    readChoice(PASS);
+                } else if (sort == Sheet.WRITE || sort == Sheet.MUST) {
+                    readEither(0);
+                } else {
+                    readSum(0);
+                }
+                closeSort(sort);
             }
             expect(';');
         }
 
         private void readSkip() {
-            int letters = next - start;
-            if (kind != WORD || letters > LONGEST_WORD || wordCount >= Sheet.MOST_WORDS) {
+            if (kind() != WORD || wordCount < 0 || wordCount >= Sheet.MOST_WORDS || stops[next] - starts[next] > LONGEST_WORD) {
                 refuse();
                 return;
             }
             long word = 0;
-            for (int i = start; i < next; i++) {
+            for (int i = starts[next]; i < stops[next]; i++) {
                 word = word << 8 | byteAt(i);
             }
             words[wordCount] = word;
@@ -1279,66 +1309,46 @@ public final class BookOfAll {
             advance();
         }
 
-        private void readOnly(int sort) {
-            if (!open(sort)) {
-                return;
-            }
-            if (sort == Sheet.NUMBERS) {
-                readChoice("last first");
-            } else if (sort == Sheet.BLANKS) {
-                readChoice("pass count");
-            } else if (sort == Sheet.OWE) {
-                readSum(0);
-            } else {
-                readEither(0);
-            }
-            close(sort);
-        }
-
-        private void readForLength(int firstSort) {
-            advance();
-            int k = among(LENGTHS);
-            if (k == NONE) {
-                refuse();
-                return;
-            }
-            int sort = firstSort + k;
-            if (open(sort)) {
-                readSum(0);
-                close(sort);
-            }
-        }
-
         /** The TOKEN that tells the sort is the one at fault, if that sort was there. */
-        private boolean open(int sort) {
+        private int openSort() {
+            int word = word();
+            int sort = NONE;
+            if (word >= NUMBERS && word <= OWE) {
+                sort = Sheet.NUMBERS + word - NUMBERS;
+            } else if (word >= LEAST && word <= PAY) {
+                advance();
+                int k = word() - SHORT;
+                sort = k >= 0 && k <= LONG - SHORT ? Sheet.LEAST + 3 * (word - LEAST) + k : NONE;
+            }
             if (sort < 0 || sort >= Sheet.SORTS || from[sort] != NONE) {
                 refuse();
-                return false;
+                return NONE;
             }
             from[sort] = codeSize;
             advance();
-            return true;
+            return sort;
         }
 
-        private void close(int sort) {
+        private void closeSort(int sort) {
             if (sort >= 0 && sort < Sheet.SORTS) {
                 to[sort] = codeSize;
             }
         }
 
-        private void readChoice(String known) {
-            int choice = among(known);
-            if (choice == NONE) {
+        /** One of two words that stand side by side in WORDS: 0 for the first, 1 for the second. */
+        private void readChoice(int first) {
+            int choice = word() - first;
+            if (choice == 0 || choice == 1) {
+                emit(choice);
+                advance();
+            } else {
                 refuse();
-                return;
             }
-            emit(choice);
-            advance();
         }
 
         private void readEither(int depth) {
             readBoth(depth);
-            for (int i = 0; i < size && fault == NONE && among("or") == 0; i++) {
+            for (int i = 0; i < size && fault == NONE && word() == OR; i++) {
                 advance();
                 readBoth(depth);
                 emit(Rules.OR);
@@ -1347,7 +1357,7 @@ public final class BookOfAll {
 
         private void readBoth(int depth) {
             readBasic(depth);
-            for (int i = 0; i < size && fault == NONE && among("and") == 0; i++) {
+            for (int i = 0; i < size && fault == NONE && word() == AND; i++) {
                 advance();
                 readBasic(depth);
                 emit(Rules.AND);
@@ -1355,8 +1365,8 @@ public final class BookOfAll {
         }
 
         private void readBasic(int depth) {
-            boolean not = among("not") == 0;
-            if (!not && kind != '[') {
+            boolean not = word() == NOT;
+            if (!not && kind() != '[') {
                 readComparison(depth);
                 return;
             }
@@ -1376,7 +1386,7 @@ public final class BookOfAll {
 
         private void readComparison(int depth) {
             readSum(depth);
-            int sign = kind;
+            int sign = kind();
             if (sign != '<' && sign != '>' && sign != '=') {
                 refuse();
                 return;
@@ -1388,8 +1398,8 @@ public final class BookOfAll {
 
         private void readSum(int depth) {
             readProduct(depth);
-            for (int i = 0; i < size && fault == NONE && (kind == '+' || kind == '-'); i++) {
-                int op = kind == '+' ? Rules.ADD : Rules.SUBTRACT;
+            for (int i = 0; i < size && fault == NONE && (kind() == '+' || kind() == '-'); i++) {
+                int op = kind() == '+' ? Rules.ADD : Rules.SUBTRACT;
                 advance();
                 readProduct(depth);
                 emit(op);
@@ -1398,8 +1408,8 @@ public final class BookOfAll {
 
         private void readProduct(int depth) {
             readFactor(depth);
-            for (int i = 0; i < size && fault == NONE && (kind == '*' || kind == '/'); i++) {
-                int op = kind == '*' ? Rules.MULTIPLY : Rules.DIVIDE;
+            for (int i = 0; i < size && fault == NONE && (kind() == '*' || kind() == '/'); i++) {
+                int op = kind() == '*' ? Rules.MULTIPLY : Rules.DIVIDE;
                 advance();
                 readFactor(depth);
                 emit(op);
@@ -1410,12 +1420,13 @@ public final class BookOfAll {
             if (fault != NONE) {
                 return;
             }
-            int name = among(NAMES);
-            if (name != NONE) {
-                emit(Rules.FIRST_NAME - name);
+            int kind = kind();
+            int name = word();
+            if (name >= ASKED && name <= LATE) {
+                emit(Rules.FIRST_NAME - (name - ASKED));
                 advance();
-            } else if (kind == NUMBER && number <= MOST_NUMBER) {
-                emit(number);
+            } else if (kind == NUMBER && values[next] <= MOST_NUMBER) {
+                emit(values[next]);
                 advance();
             } else if (kind == '(' && depth < MOST_DEPTH) {
                 advance();
@@ -1511,7 +1522,6 @@ public final class BookOfAll {
         int puts;
         final int[] names = new int[NAME_COUNT];
         final int[] stack = new int[STACK];
-        int top;
 
         boolean hasRoomForSheet() {
             return sheetCount < SHEET_LIMIT;
@@ -1588,55 +1598,43 @@ public final class BookOfAll {
             return s == null ? WITHOUT[sort] : run(s, sort);
         }
 
+        // Each code leaves one number on the stack; what can't stand there (there is none) leaves 0.
         private int run(Sheet s, int sort) {
             if (!s.has(sort) || sort >= s.to.length) {
                 return 0;
             }
-            top = 0;
+            int top = 0;
             for (int i = s.from[sort]; i >= 0 && i < s.to[sort] && i < s.code.length; i++) {
-                step(s.code[i]);
+                int op = s.code[i];
+                int name = FIRST_NAME - op;
+                if (op >= 0 && top < STACK) {
+                    stack[top] = op;
+                    top++;
+                } else if (name >= 0 && name < NAME_COUNT && top < STACK) {
+                    stack[top] = names[name];
+                    top++;
+                } else if (op == NOT && top > 0) {
+                    stack[top - 1] = stack[top - 1] == 0 ? 1 : 0;
+                } else if (top > 1) {
+                    top--;
+                    stack[top - 1] = combine(op, stack[top - 1], stack[top]);
+                }
             }
-            return pop();
-        }
-
-        private void step(int op) {
-            int name = FIRST_NAME - op;
-            if (op >= 0) {
-                push(op);
-            } else if (name >= 0 && name < NAME_COUNT) {
-                push(names[name]);
-            } else if (op == NOT) {
-                push(pop() == 0 ? 1 : 0);
-            } else {
-                int right = pop();
-                int left = pop();
-                push(combine(op, left, right));
-            }
-        }
-
-        private void push(int value) {
-            if (top >= 0 && top < STACK) {
-                stack[top] = value;
-                top++;
-            }
-        }
-
-        private int pop() {
-            if (top <= 0 || top > STACK) {
-                return 0;
-            }
-            top--;
-            return stack[top];
+            return stack[0];
         }
 
         private static int combine(int op, int left, int right) {
+            long result = 0;
             switch (op) {
                 case ADD:
-                    return within((long) left + right);
+                    result = (long) left + right;
+                    break;
                 case SUBTRACT:
-                    return within((long) left - right);
+                    result = (long) left - right;
+                    break;
                 case MULTIPLY:
-                    return within((long) left * right);
+                    result = (long) left * right;
+                    break;
                 case DIVIDE:
                     return right == 0 ? 0 : left / right;
                 case LESS:
@@ -1652,10 +1650,7 @@ public final class BookOfAll {
                 default:
                     return 0;
             }
-        }
-
-        private static int within(long value) {
-            return (int) Math.max(-FARTHEST, Math.min(FARTHEST, value));
+            return (int) Math.max(-FARTHEST, Math.min(FARTHEST, result));
         }
     }
 
@@ -1705,8 +1700,8 @@ public final class BookOfAll {
             int i = a.keyStart;
             int j = b.keyStart;
             for (int n = 0; n < Entry.HEADING_BYTES; n++) {
-                i = passBlank(a, i);
-                j = passBlank(b, j);
+                i += !blanksCount && a.byteAt(i) == ' ' ? 1 : 0;
+                j += !blanksCount && b.byteAt(j) == ' ' ? 1 : 0;
                 int left = rank(a.byteAt(i));
                 int right = rank(b.byteAt(j));
                 if (left != right) {
@@ -1718,10 +1713,6 @@ public final class BookOfAll {
             return 0;
         }
 
-        private int passBlank(Entry e, int place) {
-            return !blanksCount && e.byteAt(place) == ' ' ? place + 1 : place;
-        }
-
         private int rank(int mark) {
             if (mark == 0) {
                 return -1;
@@ -1729,7 +1720,7 @@ public final class BookOfAll {
             if (mark == ' ') {
                 return 0;
             }
-            if (Entry.isDigit(mark)) {
+            if (mark <= '9') {
                 return (numbersFirst ? 1 : 100) + mark - '0';
             }
             return 50 + mark - 'a';
@@ -1822,6 +1813,10 @@ public final class BookOfAll {
 
         boolean isDone() {
             return lineCount >= asked;
+        }
+
+        boolean isUnfinishedOf(int whose) {
+            return kind == ARTICLE && hand == whose && lineCount < asked && how != STRUCK;
         }
     }
 
@@ -2159,8 +2154,9 @@ public final class BookOfAll {
             int count = Math.max(0, Math.min(MOST_ARTICLES, articleCount) - first);
             int ways = Math.min(WAYS, 1 << count);
             sumLacks(first, ways);
-            Arrays.fill(reached, false);
-            reached[0] = true;
+            for (int set = 0; set < WAYS; set++) {
+                reached[set] = set == 0;
+            }
             for (int h = 0; h < handCount && h < MOST_HANDS; h++) {
                 reachWith(takes[h] >> first, room[h], ways);
             }

@@ -1,3 +1,5 @@
+import java.io.PrintWriter;
+import java.io.StringWriter;
 import java.lang.reflect.Field;
 import java.lang.reflect.Method;
 import java.lang.reflect.Modifier;
@@ -6,10 +8,13 @@ import java.nio.file.Path;
 import java.util.ArrayList;
 import java.util.Arrays;
 import java.util.List;
+import java.util.Map;
 import java.util.Set;
+import java.util.TreeMap;
 import java.util.TreeSet;
 import java.util.regex.Matcher;
 import java.util.regex.Pattern;
+import java.util.spi.ToolProvider;
 
 /** Rules of LANGUAGE.md that can be seen from the source and from the compiled classes. */
 public final class LanguageTest {
@@ -32,6 +37,7 @@ public final class LanguageTest {
         face();
         classes();
         methodLengths(code);
+        depths();
         System.out.println(wrong == 0 ? "the language is kept to" : wrong + " rules are not kept");
         if (wrong != 0) {
             System.exit(1);
@@ -97,6 +103,91 @@ public final class LanguageTest {
                 check(m.getParameterCount() <= 7, "parameters: " + m);
                 check(c == BookOfAll.class || !face.contains(m.getName()), "inside, with a public name: " + m);
             }
+        }
+    }
+
+    /** Which method calls which, as javap tells it of the compiled classes. */
+    private static Map<String, Set<String>> calls() {
+        List<String> args = new ArrayList<>(Arrays.asList("-c", "-p", "-classpath", System.getProperty("java.class.path"), "BookOfAll"));
+        for (Class<?> c : BookOfAll.class.getDeclaredClasses()) {
+            args.add(c.getName());
+        }
+        StringWriter out = new StringWriter();
+        int code = ToolProvider.findFirst("javap").orElseThrow().run(new PrintWriter(out), new PrintWriter(System.err), args.toArray(new String[0]));
+        check(code == 0, "javap ended with " + code);
+        Map<String, Set<String>> all = new TreeMap<>();
+        String owner = "";
+        String method = "";
+        for (String line : out.toString().split("\n")) {
+            Matcher type = Pattern.compile("class (BookOfAll\\S*) ").matcher(line);
+            Matcher head = Pattern.compile("^  \\S.*?([\\w$]+)\\(.*\\);$").matcher(line);
+            Matcher call = Pattern.compile("invoke\\w+ .*// Method (?:([\\w$]+)\\.)?\"?(\\w+|<init>)\"?:").matcher(line);
+            if (type.find() && !line.startsWith(" ")) {
+                owner = type.group(1);
+            } else if (head.find()) {
+                method = owner + "." + head.group(1).replaceAll("^BookOfAll.*", "<init>");
+                all.put(method, new TreeSet<>());
+            } else if (call.find()) {
+                String to = (call.group(1) == null ? owner : call.group(1)) + "." + call.group(2);
+                if (to.startsWith("BookOfAll")) {
+                    all.get(method).add(to);
+                }
+            }
+        }
+        return all;
+    }
+
+    private static Set<String> reached(String from, Map<String, Set<String>> calls) {
+        Set<String> all = new TreeSet<>();
+        List<String> open = new ArrayList<>(calls.getOrDefault(from, Set.of()));
+        while (!open.isEmpty()) {
+            String next = open.remove(open.size() - 1);
+            if (all.add(next)) {
+                open.addAll(calls.getOrDefault(next, Set.of()));
+            }
+        }
+        return all;
+    }
+
+    /** Methods that call one another count as one: they are a recursion. */
+    private static int depth(String method, Map<String, Set<String>> calls, Map<String, Set<String>> reached, Map<String, Integer> known) {
+        if (known.containsKey(method)) {
+            return known.get(method);
+        }
+        Set<String> ring = new TreeSet<>(Set.of(method));
+        for (String other : reached.getOrDefault(method, Set.of())) {
+            if (reached.getOrDefault(other, Set.of()).contains(method)) {
+                ring.add(other);
+            }
+        }
+        int deepest = 0;
+        for (String member : ring) {
+            for (String to : calls.getOrDefault(member, Set.of())) {
+                if (!ring.contains(to)) {
+                    deepest = Math.max(deepest, depth(to, calls, reached, known));
+                }
+            }
+        }
+        known.put(method, deepest + 1);
+        return deepest + 1;
+    }
+
+    private static void depths() {
+        Map<String, Set<String>> calls = calls();
+        Map<String, Set<String>> reached = new TreeMap<>();
+        for (String method : calls.keySet()) {
+            reached.put(method, reached(method, calls));
+        }
+        Map<String, Integer> known = new TreeMap<>();
+        int methods = 0;
+        for (String method : calls.keySet()) {
+            int depth = depth(method, calls, reached, known);
+            check(depth <= 8, "calls " + depth + " deep: " + method);
+            methods++;
+        }
+        check(methods > 150 && known.get("BookOfAll.giving") > 4 && known.get("BookOfAll.fault") > 4, "calls were not read");
+        for (String method : calls.keySet()) {
+            check(!reached.get(method).contains(method) || method.startsWith("BookOfAll$Reader.read"), "a recursion: " + method);
         }
     }
 
