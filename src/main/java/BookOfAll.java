@@ -345,7 +345,7 @@ public final class BookOfAll {
         }
         int low = 0;
         int high = rowSize;
-        while (low < high) {
+        for (int step = 0; step < ENTRY_LIMIT && low < high; step++) {
             int middle = (low + high) >>> 1;
             Entry other = entryAt(row[middle]);
             if (other != null && order.isAhead(e, other)) {

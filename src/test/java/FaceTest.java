@@ -266,6 +266,12 @@ public final class FaceTest {
         v.article("u", 1);
         due("t", v.ask("volume", 0), 3);
         due("u is behind all", v.ask("volume", 1), 5);
+        Book all = new Book();
+        for (int i = 0; i < 5; i++) {
+            due("VOLUME " + i + " up to a", all.ask("bound", i, 0), 1);
+        }
+        due("no bound of VOLUME 5, though it would fit", all.ask("bound", 5, 0), 0);
+        due("b is behind all", all.ask("volume", all.article("b", 1)), 5);
         v.ask("set", 2);
         due("some VOLUME is SET", v.ask("bound", 4, 20), 0);
         due("as it was", v.ask("volume", 1), 5);
@@ -1179,6 +1185,13 @@ public final class FaceTest {
         b.pointer("d", 0);
         due("it counts as LATER", b.ask("is", 4, 7), 2);
         due("its VOLUME is SET", b.ask("is", 4, 9), 1);
+        Book moved = new Book();
+        moved.article("z", 1);
+        moved.pointer("7", 0);
+        moved.ask("set", 0);
+        moved.forAll("numbers last;");
+        due("of the VOLUME with which it was SET", moved.ask("is", 1, 9), 1);
+        due("though a new one would not be", moved.ask("is", moved.pointer("8", 0), 9), 0);
 
         says("NONE for others, if there is none such (1 to 3, 5, 6, 8: of an ARTICLE).");
         for (int none : new int[] {10, -1, FAR, LOW}) {

@@ -189,6 +189,17 @@ public final class TermsTest {
         fault("owe 1 - 2 / 3;", NONE);
     }
 
+    private static final String WORDS = "skip numbers blanks least most pay write must owe short plain long first last count pass or and not "
+        + "asked lines facts points field skill age volume late";
+
+    /** Each word of the language in one place of a text: those that may stand there, and no other. */
+    private static void wordsThatStand(String ahead, String may, String behind) {
+        for (String word : WORDS.split(" ")) {
+            boolean stands = (" " + may + " ").contains(" " + word + " ");
+            fault(ahead + word + behind, stands ? NONE : ahead.length());
+        }
+    }
+
     private static void clauses() {
         says("A TEXT is CLAUSES, none or more, each ended by ; (but of skip, one of a kind in a TEXT; least, most and pay one for each K):");
         fault("", NONE);
@@ -199,6 +210,10 @@ public final class TermsTest {
         fault("owe 1;;", 6);
         fault(";", 0);
         fault("skip a;skip a;", NONE);
+        for (String word : WORDS.split(" ")) {
+            boolean opens = " skip numbers blanks least most pay write must owe ".contains(" " + word + " ");
+            fault(word + " ;", opens ? word.length() + 1 : 0);
+        }
         String[] once = {"numbers first;", "blanks count;", "write 1=1;", "must 1=1;", "owe 1;"};
         for (String one : once) {
             fault(one + one, one.length());
@@ -227,18 +242,18 @@ public final class TermsTest {
         says("numbers first | numbers last blanks count | blanks pass");
         fault("numbers first;blanks count;", NONE);
         fault("numbers last;blanks pass;", NONE);
-        fault("numbers count;", 8);
-        fault("numbers pass;", 8);
-        fault("blanks first;", 7);
-        fault("blanks last;", 7);
+        wordsThatStand("numbers ", "first last", ";");
+        wordsThatStand("blanks ", "count pass", ";");
         fault("numbers;", 7);
         fault("numbers first last;", 14);
 
         says("least K E | most K E | pay K E (K: short plain long)");
         fault("least short 1;most plain asked;pay long (1);", NONE);
+        for (String c : new String[] {"least ", "most ", "pay "}) {
+            wordsThatStand(c, "short plain long", " 1;");
+        }
         fault("least 1;", 6);
         fault("most middle 1;", 5);
-        fault("pay asked 1;", 4);
         fault("pay short short 1;", 10);
         fault("pay short;", 9);
         fault("pay short 1=1;", 11);
@@ -250,6 +265,7 @@ public final class TermsTest {
         fault("owe 1<2;", 5);
         fault("owe [1=1];", 4);
         fault("first write 1=1;", 0);
+        wordsThatStand("must 1=1 ", "or and", " 1=1;");
     }
 
     /** What a sum comes to, as PAY of the first LINE of an ARTICLE with 20 lines ASKED. */
@@ -294,14 +310,13 @@ public final class TermsTest {
         fault("owe (1)2;", 7);
 
         says("NAMES: asked lines facts points field skill age volume late.");
-        fault("owe asked+lines+facts+points+field+skill+age+volume+late;", NONE);
+        String names = "asked lines facts points field skill age volume late";
+        wordsThatStand("owe ", names, ";");
+        wordsThatStand("owe 1+(", names, ");");
+        wordsThatStand("must (", names, ")=1;");
+        wordsThatStand("must 1=", names, ";");
         fault("owe ask;", 4);
         fault("owe lateness;", 4);
-        fault("owe short;", 4);
-        fault("owe and;", 4);
-        fault("owe owe;", 4);
-        fault("owe last;", 4);
-        fault("owe long;", 4);
     }
 
     /** Whether a HAND may write by a condition, of the VOLUME's only ARTICLE. */
@@ -669,6 +684,9 @@ public final class TermsTest {
         due("both skips, neither alone", why("skip the;skip an;", "the b", "an a"), 0);
         due("skip ahead of numbers", why("skip the;", "the 1", "a"), 1);
         due("skip ahead of blanks", why("skip the;", "the b c", "bb"), 1);
+        due("blanks alone, with skip as it is", why("skip a;", "a b c", "bb"), 2);
+        due("numbers alone, with skip as it is", why("skip a;", "a 1", "b"), 3);
+        due("numbers alone, with blanks as they are", why("", "a 1", "a b"), 3);
         due("blanks ahead of numbers", why("", "a b", "a1"), 2);
         due("alike the other way, the later number ahead now", why("", "ab", "a b"), 2);
         due("alike the other way, the same order", why("", "a b", "ab"), 0);
@@ -1025,6 +1043,13 @@ public final class TermsTest {
             t.ask("hand", 255, 20, 0);
         }
         due("up to the twelfth", t.ask("takers", 0), 4095 - 63);
+        Book first = new Book();
+        first.writer(1);
+        first.writer(1);
+        first.article("a", 1);
+        first.ask("give", 0, 1);
+        first.ask("die", 1);
+        due("from the first on", first.ask("takers", 0), 1);
     }
 
     // ---- 5
@@ -1531,6 +1556,9 @@ public final class TermsTest {
         due("from least on, farther", fitting("least short 15;", 10, 16), 6);
         due("up to most, farther", fitting("most short 4;", 10, 3), 7);
         due("of like ones the fewest lines", fitting("", 6, 4), 2);
+        due("up, as that is nearer", fitting("", 7, 4), 1);
+        due("down, though up would be nearer", fitting("most short 7;", 7, 4), 3);
+        due("up, though down would be nearer", fitting("least short 5;", 5, 4), 3);
         Book b = new Book();
         b.article("a", 10);
         b.article("b", 10010);
@@ -1601,6 +1629,9 @@ public final class TermsTest {
         b.ask("die", 1);
         due("GIVEN to a dead one", b.ask("giving", 8, 1, 1), 1);
         due("a dead HAND", b.ask("giving", 1, 2, 1), NONE);
+        b.write(5, 2);
+        b.ask("die", 2);
+        due("DONE by a dead one", b.ask("giving", 32, 1, 1), NONE);
         due("one of two is dead", b.ask("giving", 1, 3, 1), NONE);
         b.ask("later", 4);
         due("LATER", b.ask("giving", 16, 1, 1), 1);
@@ -1677,6 +1708,13 @@ public final class TermsTest {
         fields.ask("enemies", 0, 1);
         fields.ask("give", 1, 1);
         given(fields, 1, 1, NONE);
+        Book needed = new Book();
+        needed.article("a", 1);
+        needed.article("a", 1001);
+        needed.ask("hand", 3, 1, 0);
+        needed.ask("hand", 1, 1, 0);
+        // the second ARTICLE needs the first HAND
+        given(needed, 3, 1, 1, 0);
         Book late = lacking(2, 2);
         late.writer(9);
         late.forAll("write late=0;");
