@@ -518,6 +518,14 @@ public final class TermsTest {
         y.forAll("owe 1;");
         due("it stays", y.ask("volume", 0), 0);
         due("so does the other", y.ask("volume", 1), 0);
+        Book other = new Book();
+        other.article("the b", 1);
+        other.sheet("skip the;owe 9;");
+        other.forAll("must 1=1;");
+        due("not one of a SHEET that isn't in force", other.ask("volume", 0), 3);
+        other.ask("subscribe", 0, 0, 9);
+        other.ask("set", 0);
+        due("nor its owe", other.ask("owed", 0, 0), 0);
         y.forVolume("skip b;", 3);
         y.article("b z", 1);
         due("for one VOLUME alone: not for all", y.ask("volume", 2), 0);
