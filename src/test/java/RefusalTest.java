@@ -222,6 +222,7 @@ public final class RefusalTest {
         b.text("skip an;owe 3;");
         b.ask("sheet");
         b.ask("force", 3, NONE);
+        b.ask("force", 11, 3);
         b.ask("bound", 2, 13);
         b.article("an elk", 10002);
         b.pointer("fit", 0);
@@ -232,6 +233,7 @@ public final class RefusalTest {
         for (int i = 0; i < 14; i++) {
             b.ask("give", i, i % 6);
         }
+        b.ask("give", 19, 2);
         b.ask("tell", 0, 5, 5);
         for (int i = 0; i < 14; i++) {
             b.ask("line", i, 0, 4);
@@ -292,7 +294,7 @@ public final class RefusalTest {
     private static Book halfway() {
         Book b = new Book();
         b.ask("go", 3);
-        b.forAll("skip the;numbers last;pay plain 3+asked;write skill>1;least short 2;most short 9;owe late+lines;must asked<3;");
+        b.forAll("skip the;numbers last;pay plain 3+asked+100*facts;write skill>1;least short 2;most short 9;owe late+lines;must asked<3;");
         b.forVolume("blanks pass;most plain asked+2;", 1);
         b.sheet("numbers first;skip an;blanks count;");
         b.writer(5);
@@ -315,6 +317,8 @@ public final class RefusalTest {
         b.ask("die", 4);
         b.ask("set", 0);
         b.article("cow", 2);
+        b.article("6 in", 1002);
+        b.ask("give", 19, 0);
         b.ask("go", 2);
         b.ask("tell", 0, 8, 8);
         b.ask("erratum", 0, 5, 8);
@@ -384,30 +388,31 @@ public final class RefusalTest {
         s.refusesAt(0, noFour, "article", x, 0, 0, 1);
         s.refusesAt(1, these(1, 'a' << 24, -1), "article", x, 0, 0, 1);
         s.refusesAt(2, these(1, 'a' << 24, -1), "article", x, 0, 0, 1);
-        s.refusesAt(3, these(-1, 19, 60, FAR, LOW), "pointer", x, 0, 0, 18);
+        s.refusesAt(3, these(-1, 20, 60, FAR, LOW), "pointer", x, 0, 0, 19);
         s.refusesAt(0, noFour, "pointer", x, 0, 0, 0);
-        s.refusesAt(3, these(-1, 19, 101, 10203, FAR, LOW), "plate", x, 0, 0, 102, 2);
+        s.refusesAt(3, these(-1, 20, 101, 10203, FAR, LOW), "plate", x, 0, 0, 102, 2);
         s.refusesAt(4, these(0, 1, 4, 5, -1, FAR, LOW), "plate", x, 0, 0, 102, 2);
         s.refusesAt(0, noFour, "plate", x, 0, 0, 0, 1);
     }
 
     private static void changingEntries(Scene s) {
-        s.refusesAt(0, these(0, 2, 3, 6, 19, -1, FAR, LOW), "points", 14, 0);
-        s.refusesAt(1, these(19, 60, -1, FAR, LOW), "points", 14, 18);
-        int[] no = {0, 1, 2, 3, 4, 5, 16, 17, 18, 19, -1, FAR, LOW};
+        s.refusesAt(0, these(0, 2, 3, 6, 20, -1, FAR, LOW), "points", 14, 0);
+        s.refusesAt(0, these(2, 3, 20), "points", 14, 1);
+        s.refusesAt(1, these(20, 60, -1, FAR, LOW), "points", 14, 19);
+        int[] no = {0, 1, 2, 3, 4, 5, 16, 17, 18, 20, -1, FAR, LOW};
         s.refusesAt(0, no, "strike", 6);
         s.refusesAt(0, no, "later", 6);
     }
 
     private static void askingEntries(Scene s) {
-        int[] noEntry = {19, 60, -1, FAR, LOW};
-        s.refusesAt(0, noEntry, "volume", 18);
+        int[] noEntry = {20, 60, -1, FAR, LOW};
+        s.refusesAt(0, noEntry, "volume", 19);
         s.refusesAt(0, these(6, -1, FAR, LOW), "at", 1, 0);
         s.refusesAt(1, these(5, 60, -1, FAR, LOW), "at", 0, 4);
-        s.refusesAt(0, these(1, 19, -1, FAR, LOW), "why", 0, 1);
-        s.refusesAt(1, these(0, 19, -1, FAR, LOW), "why", 0, 1);
-        s.refusesAt(0, noEntry, "stales", 18);
-        s.refusesAt(0, these(4, 5, 6, 18, 19, -1, FAR, LOW), "page", 0);
+        s.refusesAt(0, these(1, 20, -1, FAR, LOW), "why", 0, 1);
+        s.refusesAt(1, these(0, 20, -1, FAR, LOW), "why", 0, 1);
+        s.refusesAt(0, noEntry, "stales", 19);
+        s.refusesAt(0, these(4, 5, 6, 18, 20, -1, FAR, LOW), "page", 0);
         s.refusesAt(0, noEntry, "is", 18, 3);
         s.refusesAt(0, these(2, 3), "is", 18, 3);
         s.refusesAt(1, these(10, -1, FAR, LOW), "is", 0, 9);
@@ -419,14 +424,17 @@ public final class RefusalTest {
         s.refusesAt(2, these(1, -40001, FAR, LOW), "hand", 255, 20, -40000);
         s.refusesAt(0, these(1, 5, -1, FAR, LOW), "enemies", 0, 1);
         s.refusesAt(1, these(0, 2, 4, 5, -1, FAR, LOW), "enemies", 0, 1);
-        s.refusesAt(0, these(0, 1, 2, 3, 4, 11, 15, 19, -1, FAR, LOW), "give", 6, 0);
+        s.refusesAt(0, these(0, 1, 2, 3, 4, 11, 15, 20, -1, FAR, LOW), "give", 6, 0);
         s.refusesAt(1, these(2, 3, 4, 5, -1, FAR, LOW), "give", 6, 0);
         s.refusesAt(1, these(0, 2, 3, 4), "give", 7, 1);
-        s.refusesAt(0, these(0, 2, 3, 4, 5, 7, 11, 12, 15, 18, 19, -1, FAR, LOW), "line", 6, 0, 1);
+        s.refusesAt(0, these(0, 2, 3, 4, 5, 7, 11, 12, 15, 18, 20, -1, FAR, LOW), "line", 6, 0, 1);
         s.refusesAt(1, these(4, 39, 40, 99, 111, -2, FAR, LOW, LOW + 100), "line", 6, 110, 1);
         s.refusesAt(2, these(31, -1, FAR, LOW), "line", 6, NONE, 30);
+        s.refusesAt(2, these(31, -1), "line", 6, 3, 30);
+        s.refusesAt(1, these(4, 40, 111), "line", 19, 0, 1);
+        s.refusesAt(2, these(31, -1), "line", 19, 110, 1);
         s.refusesAt(0, these(4, 5, 12, -1, FAR, LOW), "die", 3);
-        s.refusesAt(0, these(0, 2, 3, 6, 12, 19, -1, FAR, LOW), "takers", 7);
+        s.refusesAt(0, these(0, 2, 3, 6, 12, 20, -1, FAR, LOW), "takers", 7);
     }
 
     private static void factsAndErrata(Scene s) {
@@ -450,8 +458,8 @@ public final class RefusalTest {
     private static void settingAndPromises(Scene s) {
         // 0 is SET; 1 and 5 have ARTICLES that aren't DONE; must doesn't hold in 3
         s.refusesAt(0, these(0, 1, 3, 5, 6, -1, FAR, LOW, 32), "set", 2);
-        s.refusesAt(0, these(0, 3, 16, 17, 19, -1, FAR, LOW), "promise", 8);
-        s.refusesAt(0, these(0, 3, 10, 19, -1, FAR, LOW), "ends", 8);
+        s.refusesAt(0, these(0, 3, 16, 17, 20, -1, FAR, LOW), "promise", 8);
+        s.refusesAt(0, these(0, 3, 10, 20, -1, FAR, LOW), "ends", 8);
         s.refusesAt(0, these(5, 12, -1, FAR, LOW), "promised", 4);
     }
 
@@ -463,13 +471,13 @@ public final class RefusalTest {
         s.refusesAt(1, these(1, 5, 6, -1, FAR, LOW), "owed", 0, 0);
         s.refusesAt(0, these(0, 6, -1, FAR, LOW), "lengths", 1, 7);
         s.refusesAt(1, these(0, 400, 401, -1, FAR, LOW), "lengths", 1, 7);
-        s.refusesAt(0, these(0, 2, 3, 4, 5, 8, 18, 19, -1, FAR, LOW), "length", 6, 7);
+        s.refusesAt(0, these(0, 2, 3, 4, 5, 8, 18, 20, -1, FAR, LOW), "length", 6, 7);
         s.refusesAt(1, these(0, 400, 401, -1, FAR, LOW), "length", 6, 7);
     }
 
     private static void giving(Scene s) {
         int free = 1 << 12 | 1 << 13;
-        int[] noArticles = {0, 1, 4, 8, 16, 64, 1 << 11, 1 << 19, 1 << 30, free | 1, free | 1 << 30, LOW, FAR, -1};
+        int[] noArticles = {0, 1, 4, 8, 16, 64, 1 << 11, 1 << 20, 1 << 30, free | 1, free | 1 << 30, LOW, FAR, -1};
         int[] noHands = {0, 16, 32, 17, 1 << 12, LOW, FAR, -1};
         int[] noDays = {0, 401, -1, FAR, LOW};
         s.refusesAt(0, noArticles, "giving", free, 3, 9);
@@ -478,7 +486,7 @@ public final class RefusalTest {
         s.refusesAt(0, noArticles, "given", free, 3, 9, 12);
         s.refusesAt(1, noHands, "given", free, 3, 9, 12);
         s.refusesAt(2, noDays, "given", free, 3, 400, 12);
-        s.refusesAt(3, these(0, 6, 14, 19, -1, FAR, LOW), "given", free, 3, 9, 13);
+        s.refusesAt(3, these(0, 6, 14, 20, -1, FAR, LOW), "given", free, 3, 9, 13);
     }
 
     private static void thievesAndCounts(Scene s) {
@@ -504,6 +512,7 @@ public final class RefusalTest {
         for (int i = 0; i < 12; i++) {
             sheets.ask("sheet");
         }
+        sheets.ask("force", 11, 3);
         sheets.text("owe 1;");
         new Scene("12 SHEETS", sheets).refuses("sheet");
         Book puts = new Book();
@@ -523,14 +532,21 @@ public final class RefusalTest {
             entries.article("a", 1);
         }
         Scene entry = new Scene("60 ENTRIES", entries);
-        entry.refuses("article", a, 0, 0, 1);
-        entry.refuses("pointer", a, 0, 0, 0);
-        entry.refuses("plate", a, 0, 0, 0, 1);
+        int f = 'f' << 24;
+        entry.refuses("article", f, 0, 0, 27200);
+        entry.refuses("pointer", f, 0, 0, 0);
+        entry.refuses("plate", f, 0, 0, 0, 1);
         Book hands = new Book();
+        // Lengths tell of each HAND, what it can.
+        hands.forAll("least short skill+age;most short skill+age;");
         for (int i = 0; i < 12; i++) {
             hands.writer(1 + i);
+            hands.article("a", 1);
+            hands.ask("give", i, i);
         }
-        new Scene("12 HANDS", hands).refuses("hand", 255, 1, 0);
+        Scene hand = new Scene("12 HANDS", hands);
+        hand.refuses("hand", 255, 1, 0);
+        hand.refuses("hand", 1, 20, -40000);
         fullOfLines();
     }
 
@@ -563,7 +579,7 @@ public final class RefusalTest {
         erratum.refuses("erratum", 0, 31, 1);
         erratum.refuses("erratum", 1, 5, 1);
         for (int i = 0; i < 30; i++) {
-            errata.ask("steal", i % 3);
+            errata.ask("steal", 0);
         }
         new Scene("30 numbers", errata).refuses("steal", 1);
     }
