@@ -890,8 +890,10 @@ public final class BookOfAll {
         return canGive(articles, hands, days) && addHands(hands, days) && addArticles(articles) ? giver.choose() : NONE;
     }
 
+    // It asks as giving() does, but not through it: calls stand one less deep.
     public int given(int articles, int hands, int days, int article) {
-        return giving(articles, hands, days) == NONE ? NONE : giver.handOf(article);
+        boolean can = canGive(articles, hands, days) && addHands(hands, days) && addArticles(articles);
+        return can && giver.choose() > 0 ? giver.handOf(article) : NONE;
     }
 
     private boolean canGive(int articles, int hands, int days) {

@@ -106,7 +106,7 @@ public final class LanguageTest {
         }
     }
 
-    /** Which method calls which, as javap tells it of the compiled classes. */
+    /** Which method calls which (the library's, too), as javap tells it of the compiled classes. */
     private static Map<String, Set<String>> calls() {
         List<String> args = new ArrayList<>(Arrays.asList("-c", "-p", "-classpath", System.getProperty("java.class.path"), "BookOfAll"));
         for (Class<?> c : BookOfAll.class.getDeclaredClasses()) {
@@ -121,17 +121,14 @@ public final class LanguageTest {
         for (String line : out.toString().split("\n")) {
             Matcher type = Pattern.compile("class (BookOfAll\\S*) ").matcher(line);
             Matcher head = Pattern.compile("^  \\S.*?([\\w$]+)\\(.*\\);$").matcher(line);
-            Matcher call = Pattern.compile("invoke\\w+ .*// Method (?:([\\w$]+)\\.)?\"?(\\w+|<init>)\"?:").matcher(line);
+            Matcher call = Pattern.compile("invoke\\w+ .*// Method (?:\"?([\\w$/\\[]+)\"?\\.)?\"?(\\w+|<init>)\"?:").matcher(line);
             if (type.find() && !line.startsWith(" ")) {
                 owner = type.group(1);
             } else if (head.find()) {
                 method = owner + "." + head.group(1).replaceAll("^BookOfAll.*", "<init>");
                 all.put(method, new TreeSet<>());
             } else if (call.find()) {
-                String to = (call.group(1) == null ? owner : call.group(1)) + "." + call.group(2);
-                if (to.startsWith("BookOfAll")) {
-                    all.get(method).add(to);
-                }
+                all.get(method).add((call.group(1) == null ? owner : call.group(1)) + "." + call.group(2));
             }
         }
         return all;
@@ -186,6 +183,7 @@ public final class LanguageTest {
             methods++;
         }
         check(methods > 150 && known.get("BookOfAll.giving") > 4 && known.get("BookOfAll.fault") > 4, "calls were not read");
+        check(known.containsKey("java/lang/Math.max") && known.containsKey("[I.clone"), "calls of the library were not read");
         for (String method : calls.keySet()) {
             check(!reached.get(method).contains(method) || method.startsWith("BookOfAll$Reader.read"), "a recursion: " + method);
         }
